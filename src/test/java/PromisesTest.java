@@ -324,6 +324,9 @@ public final class PromisesTest {
         Check.same("8: over a struck one", x.reading(4, 13), -1);
         x.correct(2, -9);
         Check.same("8: by the corrected value", x.reading(4, 13), -5);
+        x.correct(0, 11);
+        Check.same("8: by the earlier one's corrected value", x.reading(4, 13), 1);
+        Check.same("8: at its second the corrected value", x.reading(4, 10), 11);
         x.strike(1, false);
         Check.same("8: restored", x.reading(4, 13), 2);
         x.strike(2, true);
