@@ -8,14 +8,21 @@ import java.util.List;
  */
 public final class ModelTest {
     private static final int RUNS = 400;
+    // An object's calls: what it answers beyond them is free.
     private static final int CALLS = 512;
 
+    private final Run kind;
+    private int calls;
     private long seed;
     private final SceneTimes x = new SceneTimes();
     private final Model model = new Model();
 
+    /** What a run has more of than others: so that some come to each of the document's limits. */
+    private enum Run { EVEN, MANY_ACTS, LONG_TICKS }
+
     private ModelTest(int run) {
         seed = run * 7_919L + 13;
+        kind = Run.values()[run % Run.values().length];
     }
 
     public static void main(String[] args) {
@@ -26,8 +33,8 @@ public final class ModelTest {
     }
 
     private void go(int run) {
-        for (int call = 0; call < CALLS; call++) {
-            step("run " + run + ", call " + call + ": ");
+        for (int i = 0; i < CALLS && calls < CALLS; i++) {
+            step("run " + run + ", call " + calls + ": ");
         }
     }
 
@@ -46,18 +53,39 @@ public final class ModelTest {
         return draw(0, 5) == 0 ? draw(-10_003, 10_003) : draw(-20, 20);
     }
 
+    private int drawCall() {
+        boolean act = kind == Run.MANY_ACTS && draw(0, 9) < 8 && !model.notes.isEmpty();
+        return act ? draw(6, 9) : draw(0, 19);
+    }
+
+    /** Mostly what the note is not yet. */
+    private boolean drawOn(int n) {
+        boolean any = draw(0, 1) == 1;
+        if (draw(0, 3) == 0 || n < 0 || n >= model.notes.size()) {
+            return any;
+        }
+        return !model.struckAt(model.notes.get(n), model.now);
+    }
+
+    private int drawTick() {
+        if (kind == Run.LONG_TICKS) {
+            return draw(4_000, 5_010);
+        }
+        return draw(0, 9) == 0 ? draw(-1, 5_002) : draw(1, 4);
+    }
+
     private void step(String where) {
         int n = draw(-1, model.notes.size());
         int t = drawSecond();
         int v = drawValue();
         int a = draw(-1, 10);
         int b = draw(-2, 6);
-        boolean on = draw(0, 1) == 1;
+        boolean on = drawOn(n);
         int s = draw(0, 3) == 0 ? a : draw(0, 1);
         int k = draw(0, 3) == 0 ? b : 2;
         int known = draw(0, 2) == 0 ? t : model.now;
         int what = draw(-1, 5);
-        switch (draw(0, 19)) {
+        switch (drawCall()) {
             case 0: agree(where + "writer", x::writer, model::writer); break;
             case 1: case 2: case 3: case 4: case 5:
                 int w = draw(0, 9) == 0 ? a : draw(0, 2);
@@ -86,7 +114,7 @@ public final class ModelTest {
                 agree(where + "at", () -> x.at(byteAt), () -> model.at(byteAt));
                 agree(where + "count", () -> x.count(what), () -> model.count(what)); break;
             default:
-                int seconds = draw(0, 9) == 0 ? draw(-1, 5_002) : draw(1, 4);
+                int seconds = drawTick();
                 agree(where + "tick", () -> x.tick(seconds), () -> model.tick(seconds));
         }
     }
@@ -96,7 +124,11 @@ public final class ModelTest {
         return 0;
     }
 
-    private static void agree(String call, Check.Call got, Check.Call due) {
+    private void agree(String call, Check.Call got, Check.Call due) {
+        if (calls >= CALLS) {
+            return;
+        }
+        calls++;
         Check.same(call, Check.outcome(got), Check.outcome(due));
     }
 

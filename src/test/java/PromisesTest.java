@@ -1,7 +1,7 @@
 /** Each promise by itself: ordinary inputs, the edges that the document names, wrong inputs. */
 public final class PromisesTest {
-    private static final int LOWEST = Integer.MIN_VALUE;
-    private static final int HIGHEST = Integer.MAX_VALUE;
+    private static final int LOWEST = Scenes.LOWEST;
+    private static final int HIGHEST = Scenes.HIGHEST;
 
     public static void main(String[] args) {
         newObject();
@@ -30,32 +30,6 @@ public final class PromisesTest {
         Check.end();
     }
 
-    /** An object with two writers at a second. */
-    private static SceneTimes atSecond(int second) {
-        SceneTimes x = new SceneTimes();
-        x.writer();
-        x.writer();
-        if (second > 0) {
-            x.tick(second);
-        }
-        return x;
-    }
-
-    private static long strikeAnswer(SceneTimes x, int note, boolean on) {
-        x.strike(note, on);
-        return 0;
-    }
-
-    private static String sheet(SceneTimes x) {
-        int size = x.print();
-        StringBuilder text = new StringBuilder();
-        for (int i = 0; i < size; i++) {
-            text.append((char) x.at(i));
-        }
-        Check.same("at(" + size + ") behind the sheet", x.at(size), -1);
-        return text.toString();
-    }
-
     private static void newObject() {
         SceneTimes x = new SceneTimes();
         for (int what = 0; what < 5; what++) {
@@ -65,7 +39,7 @@ public final class PromisesTest {
         Check.refusedAsUnknown("1: noteAt(0, 0)", () -> x.noteAt(0, 0));
         Check.refusedAsUnknown("1: digest(0)", () -> x.digest(0));
         Check.refusedAsUnknown("1: correct(0, 0)", () -> x.correct(0, 0));
-        Check.refusedAsUnknown("1: strike(0, true)", () -> strikeAnswer(x, 0, true));
+        Check.refusedAsUnknown("1: strike(0, true)", () -> Scenes.strike(x, 0, true));
         Check.refusedAsUnknown("1: note without a writer", () -> x.note(0, 0, 0, 0, 0));
         Check.refusedByState("1: print()", x::print);
         Check.refusedByState("1: reading(0, 0)", () -> x.reading(0, 0));
@@ -89,7 +63,7 @@ public final class PromisesTest {
     }
 
     private static void note() {
-        SceneTimes x = atSecond(50);
+        SceneTimes x = Scenes.atSecond(50);
         Check.same("3: first", x.note(0, 0, 0, 0, -9_999), 0);
         Check.same("3: edges", x.note(1, 5, 9, 50, 9_999), 1);
         Check.same("3: noteAt known", x.noteAt(0, 0), 50);
@@ -105,7 +79,7 @@ public final class PromisesTest {
     }
 
     private static void noteRefusals() {
-        SceneTimes x = atSecond(50);
+        SceneTimes x = Scenes.atSecond(50);
         for (int bad : new int[] {-1, 2, 10, LOWEST, HIGHEST}) {
             Check.refusedAsUnknown("3: writer " + bad, () -> x.note(bad, 0, 0, 0, 0));
         }
@@ -127,7 +101,7 @@ public final class PromisesTest {
     }
 
     private static void correct() {
-        SceneTimes x = atSecond(5);
+        SceneTimes x = Scenes.atSecond(5);
         x.note(0, 0, 0, 0, 1);
         x.note(0, 0, 0, 0, 2);
         Check.same("4: first", x.correct(0, -9_999), 1);
@@ -150,24 +124,24 @@ public final class PromisesTest {
     }
 
     private static void strike() {
-        SceneTimes x = atSecond(5);
+        SceneTimes x = Scenes.atSecond(5);
         x.note(0, 0, 0, 0, 1);
-        Check.refusedByState("5: not struck", () -> strikeAnswer(x, 0, false));
-        Check.same("5: strikes", strikeAnswer(x, 0, true), 0);
+        Check.refusedByState("5: not struck", () -> Scenes.strike(x, 0, false));
+        Check.same("5: strikes", Scenes.strike(x, 0, true), 0);
         Check.same("5: struck now", x.noteAt(0, 2), 1);
-        Check.refusedByState("5: struck already", () -> strikeAnswer(x, 0, true));
-        Check.same("5: restores", strikeAnswer(x, 0, false), 0);
+        Check.refusedByState("5: struck already", () -> Scenes.strike(x, 0, true));
+        Check.same("5: restores", Scenes.strike(x, 0, false), 0);
         Check.same("5: not struck now", x.noteAt(0, 2), 0);
         Check.same("5: the value stays", x.noteAt(0, 3), 1);
         for (int bad : new int[] {-1, 1, 100, LOWEST, HIGHEST}) {
-            Check.refusedAsUnknown("5: note " + bad, () -> strikeAnswer(x, bad, true));
-            Check.refusedAsUnknown("5: note " + bad, () -> strikeAnswer(x, bad, false));
+            Check.refusedAsUnknown("5: note " + bad, () -> Scenes.strike(x, bad, true));
+            Check.refusedAsUnknown("5: note " + bad, () -> Scenes.strike(x, bad, false));
         }
         Check.same("5: acts", x.count(2), 2);
     }
 
     private static void actsAreBounded() {
-        SceneTimes x = atSecond(0);
+        SceneTimes x = Scenes.atSecond(0);
         x.note(0, 0, 0, 0, 1);
         x.note(0, 0, 0, 0, 2);
         x.strike(1, true);
@@ -176,20 +150,20 @@ public final class PromisesTest {
         }
         Check.same("4: acts", x.count(2), 200);
         Check.refusedForRoom("4: the 201st act", () -> x.correct(0, 5));
-        Check.refusedForRoom("5: the 201st act", () -> strikeAnswer(x, 0, true));
-        Check.refusedForRoom("5: the 201st act", () -> strikeAnswer(x, 1, false));
+        Check.refusedForRoom("5: the 201st act", () -> Scenes.strike(x, 0, true));
+        Check.refusedForRoom("5: the 201st act", () -> Scenes.strike(x, 1, false));
         Check.refusedByState("4: struck before room", () -> x.correct(1, 5));
-        Check.refusedByState("5: state before room", () -> strikeAnswer(x, 1, true));
-        Check.refusedByState("5: state before room", () -> strikeAnswer(x, 0, false));
+        Check.refusedByState("5: state before room", () -> Scenes.strike(x, 1, true));
+        Check.refusedByState("5: state before room", () -> Scenes.strike(x, 0, false));
         Check.refusedAsOutside("4: value before room", () -> x.correct(0, 10_000));
         Check.refusedAsUnknown("4: note before room", () -> x.correct(2, 0));
-        Check.refusedAsUnknown("5: note before room", () -> strikeAnswer(x, 2, true));
+        Check.refusedAsUnknown("5: note before room", () -> Scenes.strike(x, 2, true));
         Check.same("4: nothing changed", x.noteAt(0, 3), 199);
         Check.same("4: acts still", x.count(2), 200);
     }
 
     private static void askSpanKindSector() {
-        SceneTimes x = atSecond(50);
+        SceneTimes x = Scenes.atSecond(50);
         x.note(0, 0, 0, 10, 1);
         x.note(0, 1, 0, 20, 2);
         x.note(0, 1, 3, 30, 3);
@@ -219,7 +193,7 @@ public final class PromisesTest {
     }
 
     private static void askAsKnown() {
-        SceneTimes x = atSecond(10);
+        SceneTimes x = Scenes.atSecond(10);
         x.note(0, 0, 0, 3, 1);
         x.tick(10);
         x.note(0, 0, 0, 2, 2);
@@ -242,7 +216,7 @@ public final class PromisesTest {
     }
 
     private static void lineOrder() {
-        SceneTimes x = atSecond(9);
+        SceneTimes x = Scenes.atSecond(9);
         x.note(1, 0, 0, 5, 0);
         x.note(0, 5, 0, 5, 0);
         x.note(1, 0, 0, 4, 0);
@@ -257,7 +231,7 @@ public final class PromisesTest {
     }
 
     private static void row() {
-        SceneTimes x = atSecond(9);
+        SceneTimes x = Scenes.atSecond(9);
         x.note(1, 4, 8, 5, -70);
         Check.refusedAsUnknown("7: before any question", () -> x.row(0, 0));
         x.note(0, 4, 8, 9, 7);
@@ -280,7 +254,7 @@ public final class PromisesTest {
     }
 
     private static void rowsFollowTheirSecond() {
-        SceneTimes x = atSecond(9);
+        SceneTimes x = Scenes.atSecond(9);
         x.note(0, 0, 0, 1, 1);
         x.ask(0, 10, -1, -1, 9);
         x.correct(0, 2);
@@ -294,11 +268,11 @@ public final class PromisesTest {
         x.correct(0, 3);
         Check.same("7: not of the next second", x.row(0, 3), 1);
         Check.same("7: not of the next second", x.row(0, 2), 2);
-        Check.same("12: nor printed", sheet(x), "T1;1:w0k0s0=2x;");
+        Check.same("12: nor printed", Scenes.sheet(x), "T1;1:w0k0s0=2x;");
     }
 
     private static void reading() {
-        SceneTimes x = atSecond(100);
+        SceneTimes x = Scenes.atSecond(100);
         x.note(0, 2, 4, 10, 0);
         x.note(0, 2, 4, 13, 2);
         x.note(0, 2, 4, 16, -2);
@@ -334,7 +308,7 @@ public final class PromisesTest {
     }
 
     private static void readingOfOneSecond() {
-        SceneTimes x = atSecond(100);
+        SceneTimes x = Scenes.atSecond(100);
         x.note(0, 2, 0, 10, 0);
         x.note(1, 2, 0, 20, 900);
         x.note(0, 2, 0, 20, 100);
@@ -348,11 +322,8 @@ public final class PromisesTest {
     }
 
     private static void readingAtTheExtremes() {
-        SceneTimes x = atSecond(0);
-        for (int i = 0; i < 19; i++) {
-            x.tick(5_000);
-        }
-        x.tick(4_999);
+        SceneTimes x = Scenes.atSecond(0);
+        Scenes.goOn(x, Scenes.LAST_SECOND);
         x.note(0, 2, 0, 0, -9_999);
         x.note(0, 2, 0, 99_999, 9_999);
         x.note(0, 2, 1, 0, 9_999);
@@ -367,7 +338,7 @@ public final class PromisesTest {
     }
 
     private static void gap() {
-        SceneTimes x = atSecond(100);
+        SceneTimes x = Scenes.atSecond(100);
         x.note(0, 0, 0, 0, 0);
         x.note(1, 1, 1, 10, 0);
         x.note(0, 2, 2, 10, 0);
@@ -408,7 +379,7 @@ public final class PromisesTest {
     }
 
     private static void digest() {
-        SceneTimes x = atSecond(1_000);
+        SceneTimes x = Scenes.atSecond(1_000);
         x.note(1, 3, 9, 777, -5_432);
         x.note(0, 0, 0, 0, 1);
         Check.same("10: as in the document", x.digest(0), digestOf(1, 3, 9, 777, -5_432));
@@ -427,7 +398,7 @@ public final class PromisesTest {
     }
 
     private static void noteAt() {
-        SceneTimes x = atSecond(30);
+        SceneTimes x = Scenes.atSecond(30);
         x.note(0, 0, 0, 4, 1);
         x.note(1, 3, 9, 7, -5);
         x.tick(3);
@@ -450,7 +421,7 @@ public final class PromisesTest {
     }
 
     private static void print() {
-        SceneTimes x = atSecond(2_000);
+        SceneTimes x = Scenes.atSecond(2_000);
         x.note(1, 5, 9, 1_000, -10);
         x.note(0, 0, 3, 0, 0);
         x.strike(0, true);
@@ -458,21 +429,16 @@ public final class PromisesTest {
         Check.refusedAsUnknown("12: a refused question", () -> x.ask(0, 1, 6, 0, 0));
         Check.refusedByState("12: still none", x::print);
         x.ask(0, 3_000, -1, -1, 2_000);
-        Check.same("12: the sheet", sheet(x), "T2;0:w0k0s3=0;1000:w1k5s9=-10x;");
+        Check.same("12: the sheet", Scenes.sheet(x), "T2;0:w0k0s3=0;1000:w1k5s9=-10x;");
         x.correct(1, 101);
-        Check.same("12: by later acts of the second", sheet(x), "T2;0:w0k0s3=101;1000:w1k5s9=-10x;");
+        Check.same("12: by later acts of the second", Scenes.sheet(x), "T2;0:w0k0s3=101;1000:w1k5s9=-10x;");
         x.ask(0, 3_000, -1, -1, 1_999);
-        Check.same("12: a question without rows", sheet(x), "T0;");
+        Check.same("12: a question without rows", Scenes.sheet(x), "T0;");
     }
 
     private static void largestSheet() {
-        SceneTimes x = new SceneTimes();
-        for (int i = 0; i < 10; i++) {
-            x.writer();
-        }
-        for (int i = 0; i < 19; i++) {
-            x.tick(5_000);
-        }
+        SceneTimes x = Scenes.withWriters(10);
+        Scenes.goOn(x, 95_000);
         StringBuilder due = new StringBuilder("T100;");
         for (int i = 0; i < 100; i++) {
             x.note(9, 5, 9, 95_000, -9_999);
@@ -490,7 +456,7 @@ public final class PromisesTest {
     }
 
     private static void at() {
-        SceneTimes x = atSecond(5);
+        SceneTimes x = Scenes.atSecond(5);
         Check.same("13: without a sheet", x.at(0), -1);
         Check.same("13: without a sheet", x.at(HIGHEST), -1);
         x.note(0, 0, 0, 3, 4);
@@ -528,7 +494,7 @@ public final class PromisesTest {
     }
 
     private static void count() {
-        SceneTimes x = atSecond(5);
+        SceneTimes x = Scenes.atSecond(5);
         x.writer();
         x.note(0, 0, 0, 5, 0);
         x.note(0, 0, 0, 4, 0);
