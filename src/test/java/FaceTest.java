@@ -52,6 +52,15 @@ public final class FaceTest {
         Check.same("constructors", constructors.length, 1);
         Check.same("the constructor is public", constructors[0].getModifiers(), Modifier.PUBLIC);
         Check.same("its parameters", constructors[0].getParameterCount(), 0);
+        Check.same("its exceptions", constructors[0].getExceptionTypes().length, 0);
+        Check.same("what it is beside", face.getSuperclass().getSimpleName(), "Object");
+        Check.same("what it implements", face.getInterfaces().length, 0);
+        for (Class<?> inside : face.getDeclaredClasses()) {
+            int modifiers = inside.getModifiers();
+            Check.same(inside.getSimpleName() + " is static", Modifier.isStatic(modifiers) ? 1 : 0, 1);
+            Check.same(inside.getSimpleName() + " is no part of the face",
+                    modifiers & (Modifier.PUBLIC | Modifier.PROTECTED), 0);
+        }
         Check.end();
     }
 
